@@ -98,6 +98,7 @@ public final class InstructionsTest {
         gives("55", 0, 0, Asm.lui(8, 0xFFFFF000), 0xFFFFF000);
         gives("23", 0, 0, Asm.auipc(8, 0x80001000), S + 16 + 0x80001000);
         gives("15, f 0", 0, 0, 15 | 8 << 7, 0);
+        CHECK.due("15 sets no register", after(77, 0, 15 | 6 << 7).register(6), 77);
     }
 
     private static void jumps() {
@@ -141,6 +142,16 @@ public final class InstructionsTest {
                     }
                 }
             }
+        }
+        // Bits 7-11 are a part of B here, and of S, and name no register.
+        SensorNode taken = Asm.node(16, 128, 8, 64, Asm.li(8, 5), Asm.branch(0, 0, 0, 8));
+        SensorNode passed = Asm.node(16, 128, 8, 64, Asm.li(8, 5), Asm.branch(1, 0, 0, 8));
+        SensorNode stored = Asm.node(16, 128, 8, 64, Asm.li(8, 5), Asm.sw(0, 0, 8));
+        for (SensorNode x : new SensorNode[] {taken, passed, stored}) {
+            x.on();
+            x.go(2);
+            CHECK.due("x8 stays", x.register(8), 5);
+            CHECK.due("done", x.register(35), 2);
         }
         for (int offset : new int[] {4, 2048, -2048, -4096, 4092, 0x554, -0x554, 0xAA8}) {
             CHECK.due("99 by " + offset, after(0, 0, Asm.branch(0, 6, 7, offset)).register(32), S + 16 + offset);

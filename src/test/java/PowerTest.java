@@ -16,6 +16,8 @@ public final class PowerTest {
         dueBeforeEverything();
         rollingBackTwice();
         generationsWrap();
+        highGenerations();
+        mostOfAll();
         CHECK.end();
     }
 
@@ -249,5 +251,60 @@ public final class PowerTest {
         CHECK.due("checkpoints", x.count(4), 65536);
         x.go(1 + 39);
         CHECK.due("generation 1 again", x.word(0), 1);
+    }
+
+    private static void highGenerations() {
+        // As above, with a store: 39 + 3 + 4 + 1 acts. LOG is below 0 from generation 32768 on.
+        SensorNode x = Asm.node(4, 64, 8, 16, Asm.lui(5, S), Asm.li(17, 2), Asm.CALL, Asm.sw(10, 5, 60), Asm.jal(0, -8));
+        x.on();
+        int target = 2 + 40000 * 47;
+        int done = 0;
+        while (done < target) {
+            done += x.go(Math.min(20000, target - done));
+        }
+        int last = x.words() - 1;
+        CHECK.due("generation", x.word(0), 40000);
+        CHECK.due("LOG", x.word(1), 40000 << 16 | 1);
+        CHECK.due("stored", x.word(last), 40000);
+        x.cut();
+        x.on();
+        CHECK.due("it boots", x.state(), 2);
+        x.go(1);
+        CHECK.due("rolled back", x.word(last), 39999);
+        CHECK.due("one word", x.count(6), 1);
+        CHECK.due("LOG is to come", x.state(), 2);
+        x.go(1);
+        CHECK.due("LOG is empty", x.word(1), 40000 << 16);
+        CHECK.due("strays", x.strays(), 0);
+    }
+
+    private static void mostOfAll() {
+        // 1025 words of the largest store from its end downwards, each also in RAM: at the last the log is full.
+        SensorNode x = Asm.node(4096, 8192, 1024, 65536, Asm.lui(5, S + 8192), Asm.lui(6, 4096), Asm.li(7, 1025),
+            Asm.sw(7, 5, -4), Asm.addi(5, 5, -4), Asm.addi(6, 6, -4), Asm.addi(7, 7, -1), Asm.branch(0, 6, 0, 12),
+            Asm.sw(7, 6, 0), Asm.jal(0, -24), Asm.jal(0, -28));
+        int first = x.words() - 2048;
+        x.on();
+        x.go(3 + 1023 * 10 + 4);
+        CHECK.due("all entries count", x.word(1), 1024);
+        CHECK.due("the last entry", x.word(first - 2), first + 1024);
+        CHECK.due("the greatest word", x.word(first + 2047), 1025);
+        CHECK.due("the last byte of RAM", x.ram(4092), 0);
+        CHECK.due("a word of RAM", x.ram(4088) | x.ram(4089) << 8, 1023);
+        x.go(5);
+        CHECK.due("no checkpoint yet", x.state(), 3);
+        x.go(1060);
+        CHECK.due("a checkpoint of 1060 words", x.word(0), 0);
+        x.go(1);
+        CHECK.due("FLIP", x.word(0), 1);
+        CHECK.due("RAM in the buffer", x.word(3 + 1060 + 36 + 1022), 1023);
+        x.go(1 + 3);
+        CHECK.due("an entry again", x.word(1), 1 << 16 | 1);
+        x.cut();
+        x.on();
+        x.go(2);
+        CHECK.due("RAM is back", x.ram(4088) | x.ram(4089) << 8, 1023);
+        CHECK.due("the stores stay", x.word(first + 2047), 1025);
+        CHECK.due("strays", x.strays(), 0);
     }
 }

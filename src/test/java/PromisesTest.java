@@ -13,6 +13,7 @@ public final class PromisesTest {
         end();
         install();
         installAnew();
+        installMost();
         sample();
         on();
         cut();
@@ -189,6 +190,21 @@ public final class PromisesTest {
         due("4 PC is new", x.register(32), 4);
     }
 
+    private static void installMost() {
+        SensorNode x = new SensorNode();
+        for (int i = 0; i < 410; i++) {
+            x.feed(5 * i + 1, 5 * i + 2, 5 * i + 3, 5 * i + 4, 5 * i + 5);
+        }
+        x.end(8192);
+        due("4 most bytes", x.install(4096, 8192, 1024, 65536, S), 0);
+        x.plain(0);
+        for (int w = 0; w < 2048; w++) {
+            due("4 of most words", x.word(6219 - 2048 + w), Integer.reverseBytes(w + 1));
+            due("4 of most bytes, plain", x.plainByte(S + 4 * w + 3), w + 1 & 255);
+            due("4 of most bytes, plain", x.plainByte(S + 4 * w + 2), w + 1 >> 8);
+        }
+    }
+
     private static void sample() {
         SensorNode x = Asm.node(4, 64, 8, 16, Asm.li(17, 1), Asm.CALL, Asm.jal(0, -4));
         for (int i = 1; i <= 1000; i++) {
@@ -218,6 +234,13 @@ public final class PromisesTest {
         due("5 the power was on", y.sample(1), -1);
         y.install(4, 4, 8, 16, 0);
         due("5 not since install", y.sample(1), 1);
+        Asm.feed(x, Asm.li(17, 1), Asm.CALL, Asm.CALL);
+        x.install(4, 64, 8, 16, S);
+        x.sample(6);
+        x.plain(2);
+        due("5 of the new node", x.plainly(10), 6);
+        x.plain(3);
+        due("5 the old samples are gone", x.plainly(10), 0);
     }
 
     private static void on() {
@@ -463,6 +486,8 @@ public final class PromisesTest {
         due("15 what -1", x.frame(0, -1), -1);
         due("15 frame -1", x.frame(-1, 0), -1);
         due("15 frame 3", x.frame(3, 0), -1);
+        due("15 length of frame 3", x.frame(3, 1), -1);
+        due("15 cuts before frame 3", x.frame(3, 2), -1);
         due("15 frame MAX", x.frame(Integer.MAX_VALUE, 0), -1);
         due("15 SENT", x.register(34), 2);
     }
