@@ -57,6 +57,30 @@ final class Asm {
             | (offset >> 1 & 15) << 8 | (offset >> 11 & 1) << 7 | 99;
     }
 
+    /** Words that set register d to v, whatever v is. */
+    static int[] set(int d, int v) {
+        int low = v << 20 >> 20;
+        return new int[] {Asm.lui(d, v - low), Asm.addi(d, d, low)};
+    }
+
+    static int[] words(int... words) {
+        return words;
+    }
+
+    static int[] join(int[]... parts) {
+        int n = 0;
+        for (int[] p : parts) {
+            n += p.length;
+        }
+        int[] all = new int[n];
+        n = 0;
+        for (int[] p : parts) {
+            System.arraycopy(p, 0, all, n, p.length);
+            n += p.length;
+        }
+        return all;
+    }
+
     /** Feeds the words, lowest byte first, and leaves just them in the tray. */
     static void feed(SensorNode x, int... words) {
         for (int i = 0; i < words.length; i += 5) {
@@ -75,5 +99,19 @@ final class Asm {
         feed(x, words);
         x.install(r, g, l, k, STORE);
         return x;
+    }
+
+    /** The same, and power comes. */
+    static SensorNode running(int r, int g, int l, int k, int... words) {
+        SensorNode x = node(r, g, l, k, words);
+        x.on();
+        return x;
+    }
+
+    /** One act after the other until so many instructions are done, or the guest ends. */
+    static void until(SensorNode x, int count) {
+        for (int i = 0; i < 400 && x.register(35) < count && x.state() < 6; i++) {
+            x.go(1);
+        }
     }
 }

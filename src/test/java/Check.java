@@ -1,6 +1,7 @@
 /** Counts and prints the answers that are not as due. */
 final class Check {
     private final String test;
+    private String sentence = "";
     private int asked;
     private int wrong;
 
@@ -8,12 +9,17 @@ final class Check {
         this.test = test;
     }
 
+    /** The document's words that the answers from here on are held to. */
+    void sentence(String words) {
+        sentence = " '" + words + "'";
+    }
+
     void due(String call, long got, long want) {
         asked++;
         if (got != want) {
             wrong++;
             if (wrong <= 50) {
-                System.out.println(test + ": " + call + " answered " + got + ", due is " + want);
+                System.out.println(test + sentence + ": " + call + " answered " + got + ", due is " + want);
             }
         }
     }

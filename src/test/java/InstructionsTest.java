@@ -21,29 +21,9 @@ public final class InstructionsTest {
         CHECK.end();
     }
 
-    /** Words that set register d to v, whatever v is. */
-    private static int[] set(int d, int v) {
-        int low = v << 20 >> 20;
-        return new int[] {Asm.lui(d, v - low), Asm.addi(d, d, low)};
-    }
-
-    private static int[] join(int[]... parts) {
-        int n = 0;
-        for (int[] p : parts) {
-            n += p.length;
-        }
-        int[] all = new int[n];
-        n = 0;
-        for (int[] p : parts) {
-            System.arraycopy(p, 0, all, n, p.length);
-            n += p.length;
-        }
-        return all;
-    }
-
     /** x6 = a, x7 = b, then the word; d is x8. */
     private static SensorNode after(int a, int b, int word) {
-        SensorNode x = Asm.node(16, 128, 8, 64, join(set(6, a), set(7, b), new int[] {word}));
+        SensorNode x = Asm.node(16, 128, 8, 64, Asm.join(Asm.set(6, a), Asm.set(7, b), new int[] {word}));
         x.on();
         x.go(5);
         x.plain(5);
@@ -160,8 +140,8 @@ public final class InstructionsTest {
 
     /** The bytes 80 91 A2 B3 stand at x5 + 64 and at 8 in RAM. */
     private static SensorNode loaded(int f, int offset, boolean ram) {
-        int[] begin = join(set(5, S), set(6, 0xB3A29180), new int[] {Asm.sw(6, 0, 8), Asm.sw(6, 5, 64)});
-        SensorNode x = Asm.node(16, 128, 8, 64, join(begin, new int[] {Asm.load(f, 8, ram ? 0 : 5, (ram ? 8 : 64) + offset)}));
+        int[] begin = Asm.join(Asm.set(5, S), Asm.set(6, 0xB3A29180), new int[] {Asm.sw(6, 0, 8), Asm.sw(6, 5, 64)});
+        SensorNode x = Asm.node(16, 128, 8, 64, Asm.join(begin, new int[] {Asm.load(f, 8, ram ? 0 : 5, (ram ? 8 : 64) + offset)}));
         x.on();
         x.go(10);
         x.plain(7);
@@ -188,8 +168,8 @@ public final class InstructionsTest {
             {1, 2, 0xCDEF9180}, {2, 0, 0x89ABCDEF}
         };
         for (int[] c : cases) {
-            int[] begin = join(set(5, S), set(6, 0xB3A29180), set(7, 0x89ABCDEF), new int[] {Asm.sw(6, 0, 8), Asm.sw(6, 5, 64)});
-            int[] words = join(begin, new int[] {Asm.store(c[0], 7, 0, 8 + c[1]), Asm.store(c[0], 7, 5, 64 + c[1]),
+            int[] begin = Asm.join(Asm.set(5, S), Asm.set(6, 0xB3A29180), Asm.set(7, 0x89ABCDEF), new int[] {Asm.sw(6, 0, 8), Asm.sw(6, 5, 64)});
+            int[] words = Asm.join(begin, new int[] {Asm.store(c[0], 7, 0, 8 + c[1]), Asm.store(c[0], 7, 5, 64 + c[1]),
                 Asm.load(2, 8, 0, 8), Asm.load(2, 9, 5, 64)});
             SensorNode x = Asm.node(16, 128, 8, 64, words);
             x.on();
@@ -200,14 +180,14 @@ public final class InstructionsTest {
             CHECK.due("35 plain f " + c[0] + " in RAM", x.plainly(8), c[2]);
             CHECK.due("35 plain f " + c[0] + " in the store", x.plainly(9), c[2]);
         }
-        SensorNode below = Asm.node(16, 128, 8, 64, join(set(6, 2048 + 4), set(7, 9), new int[] {Asm.sw(7, 6, -2048)}));
+        SensorNode below = Asm.node(16, 128, 8, 64, Asm.join(Asm.set(6, 2048 + 4), Asm.set(7, 9), new int[] {Asm.sw(7, 6, -2048)}));
         below.on();
         below.go(5);
         CHECK.due("35 S below 0", below.ram(4), 9);
     }
 
     private static SensorNode called(int x17, int x10, int x11) {
-        SensorNode x = Asm.node(128, 128, 8, 64, join(set(17, x17), set(10, x10), set(11, x11), new int[] {Asm.CALL}));
+        SensorNode x = Asm.node(128, 128, 8, 64, Asm.join(Asm.set(17, x17), Asm.set(10, x10), Asm.set(11, x11), new int[] {Asm.CALL}));
         x.on();
         // r 128: a checkpoint before a SEND is 70 acts.
         x.go(6 + 70 + 3);
