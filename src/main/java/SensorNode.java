@@ -71,10 +71,11 @@ public final class SensorNode {
     private final PlainMachine plainMachine;
 
     public SensorNode() {
+        Plan told = new Plan();
         tray = new Tray();
-        plan = new Plan();
-        node = new Node(plan);
-        plainMachine = new PlainMachine(plan);
+        plan = told;
+        node = new Node(told);
+        plainMachine = new PlainMachine(told);
     }
 
     public int feed(int a, int b, int c, int d, int e) {
@@ -696,7 +697,7 @@ public final class SensorNode {
             FIRST_BUFFER + 2 * (OWN + MOST_RAM / 4) + 2 * MOST_ENTRIES + MOST_STORE / 4;
 
         private final Plan plan;
-        private final int[] store = new int[MOST_WORDS];
+        private final int[] store;
         // One for each of the guest's words: those with an entry that counts bear the present mark, so
         // that no log is searched; when entries cease to count the mark changes, and all others are old.
         private final int[] marks = new int[MOST_STORE / 4];
@@ -715,7 +716,9 @@ public final class SensorNode {
 
         Node(Plan plan) {
             this.plan = plan;
-            guest = new Guest(plan, store);
+            int[] words = new int[MOST_WORDS];
+            store = words;
+            guest = new Guest(plan, words);
             state = NOT_INSTALLED;
         }
 
@@ -734,7 +737,6 @@ public final class SensorNode {
             }
             radio.clear();
             strays = 0;
-            since = 0;
             hadPower = false;
             state = NO_POWER;
         }
@@ -777,7 +779,6 @@ public final class SensorNode {
             }
             counts[CUTS]++;
             counts[UNDONE] += since;
-            since = 0;
             state = NO_POWER;
             return true;
         }
@@ -960,7 +961,7 @@ public final class SensorNode {
     /** The machine without power, checkpoints or log, begun anew by every run. */
     private static final class PlainMachine {
         private final Plan plan;
-        private final int[] store = new int[MOST_STORE / 4];
+        private final int[] store;
         private final Guest guest;
         private final Radio radio = new Radio();
         private boolean ran;
@@ -968,7 +969,9 @@ public final class SensorNode {
 
         PlainMachine(Plan plan) {
             this.plan = plan;
-            guest = new Guest(plan, store);
+            int[] words = new int[MOST_STORE / 4];
+            store = words;
+            guest = new Guest(plan, words);
         }
 
         void forget() {

@@ -82,7 +82,7 @@ public final class FaceTest {
         // Rows are made with the object: what follows 'new' stands in a field's or a constructor's line.
         for (String line : code.split("\n")) {
             if (line.contains("new ")) {
-                CHECK.holds("made in a constructor: " + line, line.matches(" +private final .*|            (packed|guest) = .*|        (tray|plan|node|plainMachine) = .*"));
+                CHECK.holds("made in a constructor: " + line, line.matches(" +private final .*|            (packed|guest|int\\[\\] words) = .*|        (Plan told|tray|node|plainMachine) = .*"));
             }
         }
     }

@@ -36,7 +36,9 @@ public final class GuestBoundariesTest {
         comparisonsWithNumber();
         shiftsByNumber();
         reckoningWithRegister();
+        bitwise();
         nothing();
+        noRegisterSet();
         callWord();
         samplesBehindLast();
         halfSizedPlaces();
@@ -604,6 +606,17 @@ public final class GuestBoundariesTest {
         }
     }
 
+    private static void bitwise() {
+        CHECK.sentence("4 xor, 5 a >>> b, 6 or, 7 and");
+        int a = 0x0000F0CC;
+        gives("xor", a, 0xAAAAAAAA, Asm.r(4, 0, 8, 6, 7), a ^ 0xAAAAAAAA);
+        gives("or", a, 0xAAAAAAAA, Asm.r(6, 0, 8, 6, 7), a | 0xAAAAAAAA);
+        gives("and", a, 0xAAAAAAAA, Asm.r(7, 0, 8, 6, 7), a & 0xAAAAAAAA);
+        gives("xor with I", a, 0, Asm.i(19, 4, 8, 6, 0x2AA), a ^ 0x2AA);
+        gives("or with I", a, 0, Asm.i(19, 6, 8, 6, 0x2AA), a | 0x2AA);
+        gives("and with I", a, 0, Asm.i(19, 7, 8, 6, 0x2AA), a & 0x2AA);
+    }
+
     private static void nothing() {
         CHECK.sentence("15, f 0: nothing.");
         for (int word : new int[] {15, 0xFFFF8F8F, 15 | 8 << 7, 15 | MIN}) {
@@ -617,6 +630,29 @@ public final class GuestBoundariesTest {
         }
         for (int f = 1; f < 8; f++) {
             ends("f " + f, 0, 0, 15 | f << 12, 11);
+        }
+    }
+
+    private static void noRegisterSet() {
+        CHECK.sentence("99: on at PC + B .. 35: at a + S .. 15, f 0: nothing.");
+        // Bits 7-11 are of B or S here and name no register: all of them are tried, with registers that are not 0.
+        int[] begin = new int[31];
+        for (int i = 1; i < 32; i++) {
+            begin[i - 1] = Asm.li(i, 100 + i);
+        }
+        for (int d = 0; d < 32; d++) {
+            int[] words = {15 | d << 7, 99 | 1 << 12 | d << 7, 99 | (d & 30) << 7 | 1 << 15 | 1 << 20, Asm.store(0, 1, 0, d)};
+            for (int word : words) {
+                SensorNode x = Asm.running(32, 256, 8, 64, Asm.join(begin, Asm.words(word)));
+                x.go(32);
+                x.plain(32);
+                boolean done = word != words[2] || (d & 2) == 0;
+                CHECK.due("COUNT behind " + word, x.register(35), done ? 32 : 31);
+                for (int i = 0; i < 32; i++) {
+                    CHECK.due("x" + i + " behind " + word, x.register(i), i == 0 ? 0 : 100 + i);
+                    CHECK.due("plain x" + i + " behind " + word, x.plainly(i), i == 0 ? 0 : 100 + i);
+                }
+            }
         }
     }
 
