@@ -67,10 +67,24 @@ public final class CallBoundariesTest {
         CHECK.due(call, got, want);
     }
 
-    /** Power is on, and a frame of so many bytes of the store goes out with the next act. */
+    /** Sends the first so many bytes of the store again and again; behind the program no byte of the store is 0. */
+    private static int[] sender(int bytes) {
+        int[] words = new int[32];
+        for (int i = 0; i < 32; i++) {
+            words[i] = 0x84634221 + 0x01010101 * i;
+        }
+        int[] program = {Asm.li(17, 2), Asm.lui(10, S), Asm.li(11, bytes), Asm.CALL, Asm.lui(10, S), Asm.jal(0, -8)};
+        System.arraycopy(program, 0, words, 0, program.length);
+        return words;
+    }
+
+    private static int byteOf(int[] words, int k) {
+        return words[k / 4] >>> 8 * (k % 4) & 255;
+    }
+
+    /** Power is on, and the first frame goes out with the next act. */
     private static SensorNode sending(int bytes) {
-        SensorNode x = Asm.running(4, 128, 8, 16, Asm.li(17, 2), Asm.lui(10, S), Asm.li(11, bytes), Asm.CALL, Asm.lui(10, S),
-            Asm.jal(0, -8));
+        SensorNode x = Asm.running(4, 128, 8, 16, sender(bytes));
         x.go(3 + CHECKPOINT);
         return x;
     }
@@ -655,8 +669,13 @@ public final class CallBoundariesTest {
         due("frames of 400", x.frames(), 400);
         due("frame 399", x.frame(399, 0), 400);
         due("frame 399, bytes", x.frame(399, 1), 64);
-        due("heard 399", x.heard(399, 63), x.word(x.words() - 32 + 15) >>> 24);
+        for (int k = 0; k < 64; k++) {
+            for (int i : new int[] {0, 1, 398, 399}) {
+                due("byte " + k + " of frame " + i, x.heard(i, k), byteOf(sender(64), k));
+            }
+        }
         x.go(each);
+        due("the last byte of frame 399 stays", x.heard(399, 63), byteOf(sender(64), 63));
         due("frames of 401", x.frames(), 401);
         due("frame 400 is not kept", x.frame(400, 0), -1);
         due("frame 400, bytes", x.frame(400, 1), -1);
@@ -709,7 +728,7 @@ public final class CallBoundariesTest {
             due("not yet", x.heard(0, 0), -1);
             x.go(1);
             for (int k = 0; k < n; k++) {
-                due("byte " + k + " of " + n, x.heard(0, k), x.word(x.words() - 32 + k / 4) >>> 8 * (k % 4) & 255);
+                due("byte " + k + " of " + n, x.heard(0, k), byteOf(sender(n), k));
             }
             for (int k : new int[] {n, n + 1, -1, 64, 65, MIN, MAX}) {
                 due("byte " + k + " of " + n, x.heard(0, k), -1);
@@ -1033,7 +1052,7 @@ public final class CallBoundariesTest {
 
     private static void plainFrame() {
         CHECK.sentence("How many bytes its frame i (0 the first, whose number is 1; the first 400 are kept) has; -1 if there is none.");
-        SensorNode x = Asm.node(4, 128, 8, 16, Asm.li(17, 2), Asm.lui(10, S), Asm.li(11, 64), Asm.CALL, Asm.lui(10, S), Asm.jal(0, -8));
+        SensorNode x = Asm.node(4, 128, 8, 16, sender(64));
         due("before", x.plainFrame(0), -1);
         x.plain(3);
         due("none yet", x.plainFrame(0), -1);
@@ -1050,24 +1069,28 @@ public final class CallBoundariesTest {
         due("not heard", x.plainHeard(399, 0), -1);
         x.plain(4 + 3 * 399);
         due("frame 399", x.plainFrame(399), 64);
-        due("its last byte", x.plainHeard(399, 63), 0);
-        due("its first byte", x.plainHeard(399, 0), Asm.li(17, 2) & 255);
+        for (int k = 0; k < 64; k++) {
+            for (int i : new int[] {0, 1, 398, 399}) {
+                due("byte " + k + " of frame " + i, x.plainHeard(i, k), byteOf(sender(64), k));
+            }
+        }
         x.plain(4 + 3 * 400);
         due("frame 400 is not kept", x.plainFrame(400), -1);
         due("nor heard", x.plainHeard(400, 0), -1);
         due("SENT", x.plainly(34), 401);
         due("frame 399 stays", x.plainFrame(399), 64);
-        due("frame 0 stays", x.plainHeard(0, 0), Asm.li(17, 2) & 255);
+        due("its last byte stays", x.plainHeard(399, 63), byteOf(sender(64), 63));
+        due("frame 0 stays", x.plainHeard(0, 0), byteOf(sender(64), 0));
     }
 
     private static void plainHeard() {
         CHECK.sentence("Byte k of it; -1 if there is none.");
         for (int n : new int[] {0, 1, 63, 64}) {
-            SensorNode x = Asm.node(4, 128, 8, 16, Asm.li(17, 2), Asm.lui(10, S), Asm.li(11, n), Asm.CALL, Asm.jal(0, 0));
+            SensorNode x = Asm.node(4, 128, 8, 16, sender(n));
             due("before", x.plainHeard(0, 0), -1);
             x.plain(4);
             for (int k = 0; k < n; k++) {
-                due("byte " + k + " of " + n, x.plainHeard(0, k), x.plainByte(S + k));
+                due("byte " + k + " of " + n, x.plainHeard(0, k), byteOf(sender(n), k));
             }
             for (int k : new int[] {n, n + 1, 64, 65, -1, MIN, MAX}) {
                 due("byte " + k + " of " + n, x.plainHeard(0, k), -1);

@@ -23,6 +23,7 @@ public final class GuestBoundariesTest {
         logLayout();
         zeroRegister();
         registerNumbers();
+        everyTarget();
         wordAtPc();
         upperNumber();
         signedNumber();
@@ -387,6 +388,36 @@ public final class GuestBoundariesTest {
         CHECK.due("x30", x.register(30), 0);
         CHECK.due("x31 stored", x.ram(0), 10);
         CHECK.due("plain x31", x.plainly(31), 10);
+    }
+
+    private static void everyTarget() {
+        CHECK.sentence("d = bits 7-11, a = x of bits 15-19, b = x of bits 20-24");
+        int[] begin = new int[31];
+        for (int i = 1; i < 32; i++) {
+            begin[i - 1] = Asm.li(i, 4 * i);
+        }
+        int pc = S + 4 * 31;
+        for (int d = 1; d < 32; d++) {
+            int a = 32 - d;
+            int b = d % 31 + 1;
+            int[][] cases = {
+                // the word, what it gives to d, the next PC
+                {Asm.lui(d, 4096), 4096, pc + 4}, {Asm.auipc(d, 4096), pc + 4096, pc + 4}, {Asm.jal(d, 16), pc + 4, pc + 16},
+                {Asm.jalr(d, a, 0), pc + 4, 4 * a}, {Asm.load(2, d, a, 0), 0, pc + 4}, {Asm.addi(d, a, 3), 4 * a + 3, pc + 4},
+                {Asm.r(0, 0, d, a, b), 4 * a + 4 * b, pc + 4}, {Asm.r(0, 32, d, a, b), 4 * a - 4 * b, pc + 4}
+            };
+            for (int[] c : cases) {
+                SensorNode x = Asm.running(128, 256, 8, 64, Asm.join(begin, Asm.words(c[0])));
+                x.go(32);
+                x.plain(32);
+                CHECK.due("PC behind " + c[0], x.register(32), c[2]);
+                CHECK.due("plain PC behind " + c[0], x.plainly(32), c[2]);
+                for (int i = 0; i < 32; i++) {
+                    CHECK.due("x" + i + " behind " + c[0], x.register(i), i == d ? c[1] : 4 * i);
+                    CHECK.due("plain x" + i + " behind " + c[0], x.plainly(i), i == d ? c[1] : 4 * i);
+                }
+            }
+        }
     }
 
     private static void wordAtPc() {
