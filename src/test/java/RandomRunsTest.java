@@ -70,22 +70,13 @@ public final class RandomRunsTest {
     }
 
     private void installProgram() {
-        int r = 4 * (1 + random.nextInt(random.nextInt(5) == 0 ? 1024 : 12));
-        int g = 4 * (20 + random.nextInt(random.nextInt(5) == 0 ? 2028 : 40));
+        int style = random.nextInt(4);
+        int r = 4 * ((style == 3 ? 16 : 1) + random.nextInt(random.nextInt(5) == 0 ? 1009 : 12));
+        int g = 4 * (50 + random.nextInt(random.nextInt(5) == 0 ? 1999 : 40));
         int l = random.nextInt(3) == 0 ? 8 + random.nextInt(1017) : 8;
         int k = random.nextInt(3) == 0 ? 16 + random.nextInt(65521) : 16 + random.nextInt(40);
-        int length = 8 + random.nextInt(Math.min(g / 4 - 7, 60));
-        int[] words = new int[length];
-        int style = random.nextInt(3);
-        words[0] = Asm.lui(5, 1 << 30);
-        words[1] = Asm.li(17, 1 + random.nextInt(2));
-        words[2] = Asm.li(11, random.nextInt(20));
-        for (int i = 3; i < length; i++) {
-            words[i] = word(i, length, g, style);
-        }
-        if (style != 0) {
-            words[length - 1] = Asm.jal(0, -4 * (length - 1 - random.nextInt(length - 3)));
-        }
+        int[] words = program(style, g);
+        int length = words.length;
         for (int i = 0; i < length; i += 5) {
             int[] w = new int[5];
             for (int j = 0; j < 5; j++) {
@@ -104,7 +95,36 @@ public final class RandomRunsTest {
         due("on", x.on() ? 1 : 0, y.on() ? 1 : 0);
     }
 
-    /** Style 0 is wild; 1 and 2 keep x5 (the store's place), and so live longer. */
+    private int[] program(int style, int g) {
+        int length = style == 3 ? 37 + random.nextInt(10) : 8 + random.nextInt(Math.min(g / 4 - 7, 60));
+        int[] words = new int[length];
+        words[0] = Asm.lui(5, 1 << 30);
+        words[1] = Asm.li(17, 1 + random.nextInt(2));
+        words[2] = Asm.li(11, random.nextInt(20));
+        for (int i = 3; i < length; i++) {
+            words[i] = word(i, length, g, style);
+        }
+        int back = style == 3 ? moveToRam(words) : length - 1 - random.nextInt(length - 3);
+        if (style != 0) {
+            words[length - 1] = Asm.jal(0, -4 * back);
+        }
+        return words;
+    }
+
+    /** The last words are brought to RAM, behind those that are often written, and go on there. */
+    private int moveToRam(int[] words) {
+        int moved = 8 + random.nextInt(4);
+        int from = words.length - moved;
+        int at = from - 1 - 2 * moved;
+        for (int i = 0; i < moved; i++) {
+            words[at + 2 * i] = Asm.load(2, 6, 5, 4 * (from + i));
+            words[at + 2 * i + 1] = Asm.sw(6, 0, 12 + 4 * i);
+        }
+        words[from - 1] = Asm.jalr(1, 0, 12 + random.nextInt(2));
+        return moved - 1;
+    }
+
+    /** Style 0 is wild; the others keep x5 (the store's place), and so live longer; 3 goes on in RAM. */
     private int word(int i, int length, int g, int style) {
         int d = style == 0 ? random.nextInt(32) : pick(0, 1, 6, 7, 8, 9, 12, 13, 10);
         int a = style == 0 ? random.nextInt(32) : pick(0, 5, 6, 7, 8, 9, 10);
@@ -127,9 +147,9 @@ public final class RandomRunsTest {
             case 7:
                 return Asm.CALL;
             case 8:
-                return Asm.li(17, style == 0 ? random.nextInt(5) : 1 + random.nextInt(2));
+                return Asm.li(17, style == 0 ? random.nextInt(5) : pick(1, 1, 1, 2, 2, 2, 1, 2, 1, 2, 1, 2, 3));
             case 9:
-                return random.nextBoolean() ? Asm.addi(10, pick(0, 5), pick(0, 0, 1, 4)) : Asm.li(11, random.nextInt(style == 0 ? 90 : 5));
+                return random.nextBoolean() ? Asm.addi(10, pick(0, 5), pick(0, 0, 1, 4)) : Asm.li(11, style == 0 ? random.nextInt(90) : pick(0, 1, 2, 3, 4, 5, 9, 33, 64, 65));
             case 10:
                 return Asm.branch(pick(0, 1, 4, 5, 6, 7), a, b, 4 * (1 + random.nextInt(Math.max(1, length - i - 1))));
             case 11:
@@ -245,7 +265,7 @@ public final class RandomRunsTest {
             for (int k = -1; k < 4; k++) {
                 due("frame(" + i + ", " + k + ")", x.frame(i, k), y.frame(i, k));
             }
-            for (int k = -1; k <= 20; k++) {
+            for (int k = -1; k <= (i < 60 ? 65 : 5); k++) {
                 due("heard(" + i + ", " + k + ")", x.heard(i, k), y.heard(i, k));
                 due("plainHeard(" + i + ", " + k + ")", x.plainHeard(i, k), y.plainHeard(i, k));
             }
